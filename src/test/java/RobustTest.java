@@ -1,0 +1,182 @@
+import java.util.Random;
+
+/** LANGUAGE.md 7 and 13: no call throws or hangs, for any arguments in any state; the same calls give the same answers. */
+public final class RobustTest {
+    private static final int[] ODD = {-1, 0, 1, 2, 3, 4, 7, 8, 11, 12, 255, 300, 4000, Integer.MIN_VALUE, Integer.MAX_VALUE};
+
+    public static void main(String[] args) {
+        for (int seed = 0; seed < 400; seed++) {
+            long once = life(seed);
+            Kit.due("life " + seed + " told twice", life(seed), once);
+        }
+        everyByteOfEveryMessage();
+        Kit.finish();
+    }
+
+    /** Some 500 calls: mostly a visit's usual steps, with odd arguments and changed bytes among them. */
+    private static long life(int seed) {
+        Random dice = new Random(seed);
+        Kit.House h = Kit.house();
+        h.agent(0, "anna:secret", 2);
+        h.agent(1, "anna:secret", 2);
+        long all = 0;
+        for (int k = 0; k < 400; k++) {
+            all = all * 31 + step(h, dice);
+        }
+        return all;
+    }
+
+    private static int odd(Random dice, int usual) {
+        return dice.nextInt(4) == 0 ? ODD[dice.nextInt(ODD.length)] : dice.nextInt(usual);
+    }
+
+    private static final String[] TEXTS = {"krbtgt/HOUSE", "http/www", "anna", "anna:secret", "x:y", "", "http/www:serv"};
+
+    private static void load(Kit.House h, Random dice) {
+        switch (dice.nextInt(6)) {
+            case 0:
+                h.tape(TEXTS[dice.nextInt(TEXTS.length)]);
+                break;
+            case 1:
+                h.x.carry(dice.nextInt(Math.max(1, h.x.out(-1))), 1 << dice.nextInt(8));
+                break;
+            case 2:
+                h.x.feed(dice.nextInt(), dice.nextInt(), 0x30800000, 106 << 24, -1);
+                break;
+            case 3:
+                h.x.carry(-1, 0);
+                h.x.end(dice.nextInt(300));
+                break;
+            default:
+                h.x.carry(-1, 0);
+                break;
+        }
+    }
+
+    private static long step(Kit.House h, Random dice) {
+        RealmHouse x = h.x;
+        int kind = dice.nextInt(30);
+        if (kind < 14) {
+            load(h, dice);
+        }
+        switch (kind) {
+            case 0:
+                return x.kdc();
+            case 1:
+                return x.take(odd(dice, 2));
+            case 2:
+                return x.serve(odd(dice, 3));
+            case 3:
+                return x.met(odd(dice, 2));
+            case 4:
+                return x.receive(odd(dice, 2), odd(dice, 2));
+            case 5:
+                return x.assured(odd(dice, 2), odd(dice, 2));
+            case 6:
+                return x.handed(odd(dice, 2), odd(dice, 2));
+            case 7:
+                return x.send(odd(dice, 2), odd(dice, 2));
+            case 8:
+                return x.assure(odd(dice, 2), odd(dice, 2));
+            case 9:
+                return x.principal(odd(dice, 5));
+            case 10:
+                return x.change(odd(dice, 3), odd(dice, 5));
+            case 11:
+                return dice.nextInt(9) == 0 && x.agent(odd(dice, 2), odd(dice, 5)) ? 1 : 0;
+            case 12:
+                return x.seed() ? 1 : 0;
+            case 13:
+                return x.request(odd(dice, 2), odd(dice, 3), odd(dice, 3), dice.nextInt(), odd(dice, 5), odd(dice, 9999), odd(dice, 99));
+            case 14:
+                return x.clock(dice.nextInt(9) == 0 ? odd(dice, 1000) : Kit.NOW + dice.nextInt(400)) ? 1 : 0;
+            case 15:
+                return x.room(odd(dice, 32)) ? 1 : 0;
+            case 16:
+                return x.policy(odd(dice, 3), odd(dice, 4), odd(dice, 64)) ? 1 : 0;
+            case 17:
+                return x.shift(odd(dice, 2), odd(dice, 100)) ? 1 : 0;
+            case 18:
+                return x.ticket(odd(dice, 2), odd(dice, 8), odd(dice, 6));
+            case 19:
+                return x.drop(odd(dice, 2), odd(dice, 8)) ? 1 : 0;
+            case 20:
+                return x.ends(odd(dice, 8)) ? 1 : 0;
+            case 21:
+                return x.hand(odd(dice, 3), odd(dice, 3));
+            case 22:
+                return x.out(odd(dice, 700));
+            case 23:
+                return x.end(odd(dice, 700)) ? 1 : 0;
+            default:
+                return visit(h, dice);
+        }
+    }
+
+    /** So that the odd steps meet a house in which something goes on. */
+    private static long visit(Kit.House h, Random dice) {
+        int a = dice.nextInt(2);
+        switch (dice.nextInt(5)) {
+            case 0:
+                return h.fetch(a, 1, 0, "krbtgt/HOUSE", 0x50800000, 1 + dice.nextInt(4), 36000);
+            case 1:
+                return h.fetch(a, 2, 0, "http/www", 0, 1 + dice.nextInt(4), 36000);
+            case 2:
+                h.x.present(a, 1, dice.nextInt(4));
+                return h.carry().x.serve(2);
+            case 3:
+                h.carry().x.met(a);
+                return h.x.joins(dice.nextInt(2), a) ? 1 : 0;
+            default:
+                h.tape("data").x.send(0, a);
+                return h.carry().x.receive(0, 1 - a);
+        }
+    }
+
+    /** Each byte of a request, a reply, an AP-REQ and a KRB-PRIV changed in turn: nothing of it passes as good unless told. */
+    private static void everyByteOfEveryMessage() {
+        for (int kind = 0; kind < 5; kind++) {
+            Kit.House h = Kit.house();
+            h.agent(0, "anna:secret", 2);
+            h.fetch(0, 1, 0, "krbtgt/HOUSE", 0x50800000, 4, 36000);
+            h.fetch(0, 2, 0, "http/www", 0, 4, 36000);
+            h.x.present(0, 1, 3);
+            h.carry().x.serve(2);
+            h.carry().x.met(0);
+            h.x.joins(0, 0);
+            byte[] message = message(h, kind);
+            int passed = 0;
+            for (int i = 0; i < message.length; i++) {
+                byte[] changed = message.clone();
+                changed[i] ^= 1 << (i % 8);
+                h.tape(changed);
+                int answer = kind == 0 ? -h.x.kdc() : kind == 1 ? h.x.serve(2) : kind == 2 ? h.x.receive(0, 1)
+                    : kind == 3 ? h.x.assured(0, 1) : h.x.handed(0, 0);
+                passed += answer >= 0 ? 1 : 0;
+            }
+            // Only a name-type is held against nothing: a byte of the ticket's sname. KRB-CRED's ticket is not looked into.
+            Kit.due("changed messages of kind " + kind + " that pass", kind == 4 || passed <= 1, true);
+        }
+    }
+
+    private static byte[] message(Kit.House h, int kind) {
+        switch (kind) {
+            case 0:
+                h.request(0, 2, 0, "http/www", 0, 4, 36000);
+                break;
+            case 1:
+                h.x.present(0, 1, 0);
+                break;
+            case 2:
+                h.tape("data").x.send(0, 0);
+                break;
+            case 3:
+                h.tape("data").x.assure(0, 0);
+                break;
+            default:
+                h.x.hand(0, 1);
+                break;
+        }
+        return h.out();
+    }
+}
