@@ -219,7 +219,8 @@ public final class RealmHouse {
         int code = centre.judge();
         if (code == 0 && !centre.initial) {
             int proof = centre.shown(1);
-            code = gate.judge(tape, tape.body(proof), tape.stop(proof, tape.size), principals[0], centre.seen, USAGE_TGS_PROOF);
+            int stop = tape.stop(proof, tape.size);
+            code = gate.judge(tape, tape.body(proof), stop, principals[0], centre.seen, USAGE_TGS_PROOF);
         }
         if (code == 0) {
             code = centre.initial ? centre.judgeAs() : centre.judgeTgs();
@@ -922,12 +923,13 @@ public final class RealmHouse {
         }
 
         private boolean fitsInside(int kind, int from, int to, int depth) {
-            String shape = shapeOf(kind);
-            if (tagOf(kind) == SEQUENCE) {
-                return shape.charAt(0) == '*' ? fitsRow(shape.charAt(1), from, to, depth)
-                    : fitsFields(shape, from, to, depth);
+            if (kind >= 'A' && kind <= 'Z') {
+                return fitsRow(kind - 'A' + 'a', from, to, depth);
             }
-            return at(from) == SEQUENCE && stop(from, to) == to && fitsFields(shape, body(from), to, depth);
+            if (tagOf(kind) == SEQUENCE) {
+                return fitsFields(shapeOf(kind), from, to, depth);
+            }
+            return at(from) == SEQUENCE && stop(from, to) == to && fitsFields(shapeOf(kind), body(from), to, depth);
         }
 
         private boolean fitsRow(int kind, int from, int to, int depth) {
@@ -991,47 +993,35 @@ public final class RealmHouse {
         }
 
         /**
-         * A row: * and its elements' kind. Otherwise each field's number, whether it must (!) or may (?)
-         * be there, and its kind: i Int32, u UInt32, m Microseconds, s KerberosString, t KerberosTime,
-         * b flags, o OCTET STRING; the others stand here.
+         * Each field's number, whether it must (!) or may (?) be there, and its kind: i Int32, u UInt32,
+         * m Microseconds, s KerberosString, t KerberosTime, b flags, o OCTET STRING; the other small letters
+         * stand here, and a capital letter is a row of what the small one is.
          */
         private static String shapeOf(int kind) {
             switch (kind) {
-                case 'S':
-                    return "*s";
-                case 'I':
-                    return "*i";
-                case 'P':
-                    return "*p";
-                case 'A':
-                    return "*a";
-                case 'K':
-                    return "*k";
-                case 'L':
-                    return "*l";
-                case 'C':
-                    return "*c";
-                case 'n':
+                case 'n': // PrincipalName
                     return "0!i1!S";
-                case 'a':
+                case 'a': // PA-DATA
                     return "1!i2!o";
-                case 'l':
+                case 'l': // an entry of LastReq
                     return "0!i1!t";
+                case 'p': // EncryptionKey, Checksum, HostAddress, TransitedEncoding, an entry of AuthorizationData
+                    return "0!i1!o";
                 case ENCRYPTED:
                     return "0!i1?u2!o";
                 case SHOWN_AHEAD:
                     return "0!t1?m";
-                case 'q':
+                case 'q': // KDC-REQ-BODY
                     return "0!b1?n2!s3?n4?t5!t6?t7!u8!I9?Pa?eb?K";
-                case 'f':
+                case 'f': // KRB-SAFE-BODY
                 case PRIV_PART:
                     return "0!o1?t2?m3?u4!p5?p";
-                case 'c':
+                case 'c': // KrbCredInfo
                     return "0!p1?s2?n3?b4?t5?t6?t7?t8?s9?na?P";
-                case 'k':
+                case 'k': // Ticket
                     return "0!i1!s2!n3!e";
                 default:
-                    return kind >= 256 ? messageShape(kind) : "0!i1!o";
+                    return messageShape(kind);
             }
         }
 
@@ -1064,8 +1054,10 @@ public final class RealmHouse {
                     return "0!t1!m2?p3?u";
                 case CRED_PART:
                     return "0!C1?u2?t3?m4?p5?p";
-                default:
+                case KRB_ERROR:
                     return "0!i1!i2?t3?m4!t5!m6!i7?s8?n9!sa!nb?sc?o";
+                default:
+                    return "";
             }
         }
     }
@@ -2043,7 +2035,7 @@ public final class RealmHouse {
             vault.putSealed(to, keyOf(etypes == 1 || etypes == 3 ? 17 : 18), USAGE_SHOWN, 0);
         }
 
-        /** The authenticator, in the text: with a sum over what is checked, if anything is, a subkey and a number likewise. */
+        /** The authenticator, in the text; a sum, a subkey and a number only if there is something of theirs. */
         private void putAuthenticator(Ticket ticket, byte[] with, Bytes checked, long number) {
             Bytes text = vault.text;
             text.clear();
