@@ -405,6 +405,17 @@ public final class AgentTest {
         Kit.Node proof = new Kit.Node(Kit.opened(Kit.KEY_B, 11, h.node().down(4)));
         Kit.same("cname as told", proof.down(2).whole, reply.cname);
         Kit.due("its size", size, h.x.out(-1));
+        int[] types = {0, 127, 128, 255, 256, 32767, 32768, -1, -127, -128, -129, -256, -32768, -32769, Integer.MIN_VALUE,
+            Integer.MAX_VALUE};
+        for (int type : types) {
+            Kit.House other = asking(4);
+            Forms.Reply one = reply(other);
+            one.cname = Kit.name(type, "anna");
+            other.tape(one.der()).x.take(0);
+            other.x.present(0, 0, 0);
+            proof = new Kit.Node(Kit.opened(Kit.KEY_A, 11, other.node().down(4)));
+            Kit.same("name-type " + type, proof.down(2).whole, one.cname);
+        }
         // A shorter one in its place leaves nothing of the longer one.
         h.x.drop(0, 0);
         Kit.due("a shorter one", h.fetch(0, 1, 0, "krbtgt/HOUSE", 0, 4, 36000), 0);

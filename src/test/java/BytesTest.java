@@ -165,6 +165,15 @@ public final class BytesTest {
             h.kdc(Kit.NIL);
             Kit.same("stime of " + t, h.out(), Kit.error(t, 60, null, null, Kit.TGS_NAME, null));
         }
+        // Every month's first and last second, in a leap year and behind it.
+        for (int month = 0; month < 24; month++) {
+            int t = (int) java.time.LocalDate.of(2020, 1, 1).plusMonths(month).toEpochDay() * 86400;
+            for (int at = t - 1; at <= t; at++) {
+                h.x.clock(at);
+                h.x.kdc();
+                Kit.same("stime of " + at, h.out(), Kit.error(at, 60, null, null, Kit.TGS_NAME, null));
+            }
+        }
     }
 
     private static void seed() {

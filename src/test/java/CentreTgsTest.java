@@ -349,6 +349,8 @@ public final class CentreTgsTest {
         pass.renewTill = Kit.time(Kit.NOW);
         body.etype = Forms.etypes();
         step(h, "renew too late", body, pass, proof, 32);
+        pass.renewTill = Kit.time(0);
+        step(h, "renew far too late", body, pass, proof, 32);
         pass.renewTill = Kit.time(Kit.NOW + 1);
         step(h, "renew just in time, but no etype", body, pass, proof, 14);
         body.options = Kit.flags(RENEW | FORWARDED | PROXY);

@@ -129,15 +129,15 @@ public final class DerTest {
         }
         body.till = Kit.tlv(0x17, Kit.ascii("20010101000000Z"));
         due("a UTCTime", body, false);
-        // Every day's value is right, seen by the endtime that a till becomes.
-        Kit.House one = Kit.house();
-        one.x.policy(1, 2, 14);
-        one.x.policy(1, 0, 1000000);
-        one.x.policy(0, 0, 1000000);
-        int[] days = {0, 58 * 86400, 59 * 86400, 730 * 86400 + 59 * 86400, 951782400, 951868800, 978307199, 1230767999,
+        // A time's value is right, seen by the endtime that a till becomes.
+        int[] odd = {0, 58 * 86400, 59 * 86400, 730 * 86400 + 59 * 86400, 951782400, 951868800, 978307199, 1230767999,
             1235865599, 1330473600, 1999999990};
+        int[] days = Arrays.copyOf(odd, odd.length + 60);
+        for (int k = 0; k < 60; k++) {
+            days[odd.length + k] = 1577836800 + k * 86400 * 13 - 1;
+        }
         for (int day : days) {
-            one = Kit.house();
+            Kit.House one = Kit.house();
             one.x.policy(1, 2, 14);
             one.x.clock(day);
             Forms.Body at = Forms.asBody();

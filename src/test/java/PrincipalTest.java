@@ -111,6 +111,10 @@ public final class PrincipalTest {
         Kit.due("change", h.tape("two").x.change(2, 1), 2);
         Kit.due("the TAPE is empty behind it", h.x.end(1), false);
         Kit.due("VERSION 1 still", visit(h, first, 1), 1);
+        first.sealing = Kit.WWW_17;
+        Kit.due("VERSION 1 of 17 still", visit(h, first, 9), 2);
+        first.sealing = Kit.WWW_18;
+        h.x.ends(2);
         Forms.Pass second = Forms.wwwPass();
         second.sealing = Kit.stringToKey(18, "two", "HOUSEhttpwww", 1);
         second.kvno = 2;

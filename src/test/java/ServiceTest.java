@@ -152,6 +152,13 @@ public final class ServiceTest {
             Kit.f(3, Kit.num(coins.number(0x3FFFFFFF)))));
         Kit.same("AP-REP", h.out(), Kit.app(15, Kit.seq(Kit.f(0, Kit.num(5)), Kit.f(1, Kit.num(15)),
             Kit.f(2, Kit.encrypted(17, Kit.NONE, Kit.seal(Kit.KEY_B, 12, coins.next(16), text))))));
+        proof.number = Kit.num(0);
+        proof.cusec = Kit.num(4);
+        Kit.due("mutual, seq-number 0", h.tape(Forms.visit(pass, proof, true)).x.serve(2), 1);
+        Kit.Node rep = new Kit.Node(Kit.opened(Kit.KEY_B, 12, h.node().down(2)));
+        Kit.same("is answered with one", rep.down(3).whole, Kit.num(coins.number(0x3FFFFFFF)));
+        coins.next(16);
+        h.x.ends(1);
         proof.cusec = Kit.num(1);
         proof.number = null;
         Kit.due("mutual, no seq-number", h.tape(Forms.visit(pass, proof, true)).x.serve(2), 1);
@@ -311,6 +318,20 @@ public final class ServiceTest {
         dueJoin("seq-number", 0, 0, 1, Kit.KEY_A, false);
         dueJoin("no seq-number", 0, 0, -1, Kit.KEY_A, false);
         dueJoin("the ticket's key", 0, 0, 0, Kit.KEY_B, false);
+        dueJoin("the ticket's key, as long", 0, 0, 0, Kit.TGS_18, false);
+        byte[] last = Kit.KEY_A.clone();
+        last[31] ^= 1;
+        dueJoin("the ticket's key, its last bit", 0, 0, 0, last, false);
+        byte[] first = Kit.KEY_A.clone();
+        first[0] ^= 1;
+        dueJoin("the ticket's key, its first byte", 0, 0, 0, first, false);
+        h = visiting(2);
+        h.carry().x.serve(2);
+        h.x.joins(0, 0);
+        h.x.ends(0);
+        h.x.present(0, 0, 2);
+        Kit.due("a new SESSION of the same number", h.carry().x.serve(2), 0);
+        Kit.due("is not joined yet", h.tape("x").x.send(0, 0), -1);
     }
 
     private static void dueJoin(String what, int time, int micro, int number, byte[] key, boolean want) {

@@ -281,6 +281,10 @@ public final class SessionTest {
         Kit.due("side 1 is behind", v.h.carry().x.receive(0, 0), -37);
         v.h.x.shift(0, 300);
         Kit.due("just in time", v.h.carry().x.receive(0, 0), 1);
+        v.h.x.shift(0, 0);
+        v.h.x.clock(0);
+        v.h.tape("c").x.send(0, 1);
+        Kit.due("the time 0 is one, too", v.h.carry().x.receive(0, 0), 1);
     }
 
     private static void handWhole() {
