@@ -1890,7 +1890,7 @@ public final class RealmHouse {
         /** The latest request; a kind of -1 when no reply is due. */
         private int askedKind;
         private int nonce;
-        private int askedOptions;
+        private boolean renews;
         private int etypes;
         private final Bytes client = new Bytes(PARTS_MOST);
         private final Bytes service = new Bytes(PARTS_MOST);
@@ -1952,11 +1952,14 @@ public final class RealmHouse {
             return type == 18 ? key18 : key17;
         }
 
-        /** A name and a key are kept of the ticket itself: it may be dropped before the reply comes. */
+        /**
+         * A name and a key are kept of the ticket itself: it may be dropped before the reply comes. Only TGS knows
+         * renew: a ticket of AS was never renewed, whatever its request asked for.
+         */
         void keepAsked(int kind, int w, int options, int types, Bytes parts) {
             boolean proves = kind == 2 && has(w);
             askedKind = kind;
-            askedOptions = options;
+            renews = proves && (options & RENEW) != 0;
             etypes = types;
             service.copyOf(parts);
             client.copyOf(proves ? wallet[w].name : name);
@@ -2144,7 +2147,7 @@ public final class RealmHouse {
                 return -14;
             }
             int start = text.timeAt(text.field(0, text.field(0, 6) >= 0 ? 6 : 5));
-            if ((askedOptions & RENEW) == 0 && Math.abs(start - time()) > SKEW) {
+            if (!renews && Math.abs(start - time()) > SKEW) {
                 return -37;
             }
             int w = freePlace();

@@ -10,6 +10,8 @@ public final class AgentTest {
         tgsReq();
         nonces();
         takeInOrder();
+        takeAsThatAskedForRenew();
+        takeRenewed();
         takeTgs();
         takeErrors();
         takeOnce();
@@ -295,6 +297,40 @@ public final class AgentTest {
         h = asking(4);
         h.x.shift(0, 301);
         Kit.due("its own clock counts", h.tape(reply(h).der()).x.take(0), -37);
+    }
+
+    /** Only TGS renews: a request of AS may hold the option, its ticket is no renewed one for that. */
+    private static void takeAsThatAskedForRenew() {
+        for (int kind = 0; kind < 2; kind++) {
+            for (int off : new int[] {-301, -300, 0, 300, 301}) {
+                Kit.House h = withAnna();
+                h.request(0, kind, 0, "krbtgt/HOUSE", 2, 4, 36000);
+                Forms.Reply reply = reply(h);
+                reply.starttime = Kit.time(Kit.NOW + off);
+                int want = Math.abs(off) > 300 ? -37 : 0;
+                Kit.due("AS with renew", h.tape(reply.der()).x.take(0), want);
+            }
+        }
+    }
+
+    /** The whole way, the AGENT's clock going wrong between its request and the reply. */
+    private static void takeRenewed() {
+        int renewable = 1 << 23;
+        Kit.House h = withAnna();
+        Kit.due("renewable", h.fetch(0, 1, 0, "krbtgt/HOUSE", renewable, 4, 36000), 0);
+        h.request(0, 2, 0, "krbtgt/HOUSE", 2, 4, 36000);
+        Kit.due("renewed", h.carry().x.kdc(), 0);
+        h.x.shift(0, 500);
+        Kit.due("a renewed one may be far off", h.carry().x.take(0), 1);
+        Kit.due("its starttime", h.x.ticket(0, 1, 2), Kit.NOW);
+        h.request(0, 0, 0, "krbtgt/HOUSE", 0, 4, 36000);
+        Kit.due("AS behind it is none", h.tape(reply(h).der()).x.take(0), -37);
+        h.x.shift(0, 0);
+        h.request(0, 0, 0, "krbtgt/HOUSE", 2, 4, 36000);
+        h.request(0, 2, 0, "krbtgt/HOUSE", 0, 4, 36000);
+        Kit.due("TGS without renew", h.carry().x.kdc(), 0);
+        h.x.shift(0, -301);
+        Kit.due("TGS without renew is none", h.carry().x.take(0), -37);
     }
 
     /** TGS: the subkey opens, and the name is that of the TICKET. */
