@@ -196,7 +196,7 @@ public final class BytesTest {
             }
         }
         Kit.due("seed() of 65", h.tape(new byte[65]).x.seed(), false);
-        Kit.due("its TAPE stays", h.tapeSize(), 65);
+        Kit.due("its TAPE stays", h.hasTape(65), true);
         h.x.end(0);
         h.request(0, 0, 0, "anna", 0, 4, 0);
         Kit.due("and the row goes on", h.node().down(4, 7).number(), coins.number(0x7FFFFFFF));

@@ -13,6 +13,7 @@ public final class CentreTgsTest {
         replyWithoutSubkey();
         orderOfTheProof();
         orderOfTheSeal();
+        orderOfTheAuthenticator();
         orderOfTheRest();
         names();
         seen();
@@ -159,7 +160,14 @@ public final class CentreTgsTest {
             pass.key = key;
             refused("key", h, Forms.tgsReq(body, Forms.apReq(pass.der(), none)), 14, sname);
         }
-        pass.key = null;
+    }
+
+    private static void orderOfTheAuthenticator() {
+        Kit.House h = Kit.house();
+        Forms.Body body = Forms.tgsBody();
+        byte[] sname = body.sname;
+        Forms.Pass pass = new Forms.Pass();
+        pass.cname = Kit.name(1, "x".repeat(20), "y".repeat(16));
         Forms.Proof proof = new Forms.Proof();
         proof.part = 3;
         byte[] sealed = Kit.sealed(Kit.KEY_B, 7, Kit.NONE, proof.text());
@@ -384,6 +392,7 @@ public final class CentreTgsTest {
             Kit.due("the service may not", flagsOf(h, all, all, 0), all & ~bits[k]);
             h.x.policy(2, 2, 15);
         }
+        h = Kit.house();
         Kit.due("forwarded", flagsOf(h, FORWARDED, all, 0), FORWARDED);
         Kit.due("proxy", flagsOf(h, PROXY, all, 0), PROXY);
         Kit.due("both were", flagsOf(h, 0, FORWARDED | PROXY, 0), FORWARDED | PROXY);

@@ -187,6 +187,17 @@ final class Forms {
         }
     }
 
+    /** AGENT a asks for http/www and gets a ticket that the test has made: the TICKET's number. */
+    static int give(Kit.House h, int a, Pass pass) {
+        h.request(a, 0, 0, "http/www", 0, 4, 36000);
+        Reply reply = new Reply();
+        reply.nonce = h.node().down(4, 7).whole;
+        reply.ticket = pass.der();
+        reply.sname = Kit.WWW_NAME;
+        reply.key = Kit.key(pass.session);
+        return h.tape(reply.der()).x.take(a);
+    }
+
     static byte[] address(int side) {
         return Kit.pair(2, Kit.bytes(10, 0, 0, side));
     }

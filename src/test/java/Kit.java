@@ -427,7 +427,7 @@ final class Kit {
     // ---- a house and its bytes
 
     static final class House {
-        final RealmHouse x = new RealmHouse();
+        final Played x = new Played();
 
         House tape(byte[] row) {
             x.end(0);
@@ -449,22 +449,13 @@ final class Kit {
             return (row[i] & 255) << 24 | (row[i + 1] & 255) << 16 | (row[i + 2] & 255) << 8 | row[i + 3] & 255;
         }
 
-        /** How many bytes the TAPE has: it gives them up for that. */
-        int tapeSize() {
-            for (int n = 4000; n >= 0; n--) {
-                if (x.end(n)) {
-                    return n;
-                }
-            }
-            return -1;
+        /** Whether the TAPE has just so many bytes. */
+        boolean hasTape(int count) {
+            return !x.end(count + 1) && x.end(count);
         }
 
         byte[] out() {
-            byte[] row = new byte[x.out(-1)];
-            for (int i = 0; i < row.length; i++) {
-                row[i] = (byte) x.out(i);
-            }
-            return row;
+            return x.whole();
         }
 
         Node node() {

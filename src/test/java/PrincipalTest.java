@@ -9,6 +9,7 @@ public final class PrincipalTest {
         change();
         policy();
         room();
+        roomOfEach();
         Kit.finish();
     }
 
@@ -164,31 +165,53 @@ public final class PrincipalTest {
         Kit.due("room(0)", h.x.room(0), false);
         Kit.due("room(33)", h.x.room(33), false);
         Kit.due("room(-1)", h.x.room(-1), false);
-        Forms.Pass pass = Forms.wwwPass();
+        h.agent(0, "anna:secret", 2);
+        Forms.give(h, 0, Forms.wwwPass());
+        byte[] first = presented(h);
+        byte[] last = first;
         for (int k = 0; k < 32; k++) {
-            Kit.due("visit " + k, visit(h, pass, k), 0);
+            Kit.due("visit " + k, h.carry().x.serve(2), 0);
             h.x.ends(0);
+            last = k == 30 ? presented(h) : last;
+            if (k != 30) {
+                h.x.present(0, 0, 0);
+            }
         }
-        Kit.due("the 33rd at first", visit(h, pass, 32), -29);
-        Kit.due("one that is there is told before", visit(h, pass, 31), -34);
+        byte[] more = h.out();
+        Kit.due("the 33rd at first", h.carry().x.serve(2), -29);
+        Kit.due("one that is there is told before", h.tape(last).x.serve(2), -34);
         Kit.due("room(1)", h.x.room(1), true);
-        Kit.due("what is kept stays", visit(h, pass, 0), -34);
+        Kit.due("what is kept stays", h.tape(first).x.serve(2), -34);
         Kit.due("room(32)", h.x.room(32), true);
-        Kit.due("still none", visit(h, pass, 32), -29);
-        // Each has its own room.
-        Forms.Pass other = new Forms.Pass();
-        Forms.Proof proof = new Forms.Proof();
-        Kit.due("another service's room", h.tape(Forms.visit(other, proof, false)).x.serve(0), 0);
-        Kit.due("the centre's room is not that of 'krbtgt/HOUSE' as a service",
-            h.kdc(Forms.tgsReq(Forms.tgsBody(), other, proof)), 0);
-        Kit.due("there already", h.kdc(Forms.tgsReq(Forms.tgsBody(), other, proof)), 34);
+        Kit.due("still none", h.tape(more).x.serve(2), -29);
         // Old ones are forgotten when another one comes: at 300 seconds not yet, at 301.
         h.x.clock(Kit.NOW + 300);
-        proof.ctime = Kit.time(Kit.NOW + 300);
-        Kit.due("none forgotten yet", h.tape(Forms.visit(pass, proof, false)).x.serve(2), -29);
+        h.x.present(0, 0, 0);
+        byte[] late = h.out();
+        Kit.due("none forgotten yet", h.carry().x.serve(2), -29);
         h.x.clock(Kit.NOW + 301);
-        Kit.due("all forgotten", h.tape(Forms.visit(pass, proof, false)).x.serve(2), 1);
+        Kit.due("all forgotten", h.tape(late).x.serve(2), 0);
         h.x.clock(Kit.NOW);
-        Kit.due("what was forgotten may come anew", visit(h, pass, 31), 2);
+        Kit.due("what was forgotten may come anew", h.tape(last).x.serve(2), 1);
+    }
+
+    private static byte[] presented(Kit.House h) {
+        h.x.present(0, 0, 0);
+        return h.out();
+    }
+
+    /** Each service has its own, and the centre's is not that of 'krbtgt/HOUSE' as a service. */
+    private static void roomOfEach() {
+        Kit.House h = Kit.house();
+        h.x.room(1);
+        Forms.Pass pass = new Forms.Pass();
+        Forms.Proof proof = new Forms.Proof();
+        Kit.due("a service's room", visit(h, Forms.wwwPass(), 0), 0);
+        Kit.due("is full", visit(h, Forms.wwwPass(), 1), -29);
+        Kit.due("another service's room", h.tape(Forms.visit(pass, proof, false)).x.serve(0), 1);
+        Kit.due("the centre's room", h.kdc(Forms.tgsReq(Forms.tgsBody(), pass, proof)), 0);
+        Kit.due("there already", h.kdc(Forms.tgsReq(Forms.tgsBody(), pass, proof)), 34);
+        proof.cusec = Kit.num(1);
+        Kit.due("is full", h.kdc(Forms.tgsReq(Forms.tgsBody(), pass, proof)), 29);
     }
 }

@@ -13,14 +13,15 @@ public final class RobustTest {
         Kit.finish();
     }
 
-    /** Some 500 calls: mostly a visit's usual steps, with odd arguments and changed bytes among them. */
+    /** Nearly 512 calls: mostly a visit's usual steps, with odd arguments and changed bytes among them. */
     private static long life(int seed) {
         Random dice = new Random(seed);
         Kit.House h = Kit.house();
         h.agent(0, "anna:secret", 2);
         h.agent(1, "anna:secret", 2);
         long all = 0;
-        for (int k = 0; k < 400; k++) {
+        // No step makes more than ten calls.
+        while (h.x.calls() + 10 < Played.CALLS) {
             all = all * 31 + step(h, dice);
         }
         return all;
@@ -54,7 +55,7 @@ public final class RobustTest {
     }
 
     private static long step(Kit.House h, Random dice) {
-        RealmHouse x = h.x;
+        Played x = h.x;
         int kind = dice.nextInt(30);
         if (kind < 14) {
             load(h, dice);
@@ -133,33 +134,44 @@ public final class RobustTest {
         }
     }
 
+    /**
+     * A name-type of the ticket's sname is held against nothing, nor are the four bytes of ap-options by the centre.
+     * (KRB-CRED's ticket is not looked into at all.)
+     */
+    private static final int[] MAY_PASS = {5, 1, 0, 0};
+
     /** Each byte of a request, a reply, an AP-REQ and a KRB-PRIV changed in turn: nothing of it passes as good unless told. */
     private static void everyByteOfEveryMessage() {
         for (int kind = 0; kind < 5; kind++) {
-            Kit.House h = Kit.house();
-            h.agent(0, "anna:secret", 2);
-            h.fetch(0, 1, 0, "krbtgt/HOUSE", 0x50800000, 4, 36000);
-            h.fetch(0, 2, 0, "http/www", 0, 4, 36000);
-            h.x.present(0, 1, 3);
-            h.carry().x.serve(2);
-            h.carry().x.met(0);
-            h.x.joins(0, 0);
-            byte[] message = message(h, kind);
             int passed = 0;
-            for (int i = 0; i < message.length; i++) {
-                byte[] changed = message.clone();
-                changed[i] ^= 1 << (i % 8);
-                h.tape(changed);
+            int size = message(visited(), kind);
+            for (int i = 0; i < size; i++) {
+                Kit.House h = visited();
+                message(h, kind);
+                h.x.carry(i, 1 << (i % 8));
                 int answer = kind == 0 ? -h.x.kdc() : kind == 1 ? h.x.serve(2) : kind == 2 ? h.x.receive(0, 1)
                     : kind == 3 ? h.x.assured(0, 1) : h.x.handed(0, 0);
                 passed += answer >= 0 ? 1 : 0;
             }
-            // Only a name-type is held against nothing: a byte of the ticket's sname. KRB-CRED's ticket is not looked into.
-            Kit.due("changed messages of kind " + kind + " that pass", kind == 4 || passed <= 1, true);
+            if (kind < 4) {
+                Kit.due("changed messages of kind " + kind + " that pass", passed, MAY_PASS[kind]);
+            }
         }
     }
 
-    private static byte[] message(Kit.House h, int kind) {
+    private static Kit.House visited() {
+        Kit.House h = Kit.house();
+        h.agent(0, "anna:secret", 2);
+        h.fetch(0, 1, 0, "krbtgt/HOUSE", 0x50800000, 4, 36000);
+        h.fetch(0, 2, 0, "http/www", 0, 4, 36000);
+        h.x.present(0, 1, 3);
+        h.carry().x.serve(2);
+        h.carry().x.met(0);
+        h.x.joins(0, 0);
+        return h;
+    }
+
+    private static int message(Kit.House h, int kind) {
         switch (kind) {
             case 0:
                 h.request(0, 2, 0, "http/www", 0, 4, 36000);
@@ -177,6 +189,6 @@ public final class RobustTest {
                 h.x.hand(0, 1);
                 break;
         }
-        return h.out();
+        return h.x.out(-1);
     }
 }

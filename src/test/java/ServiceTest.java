@@ -222,18 +222,9 @@ public final class ServiceTest {
     private static Kit.House visiting(int how) {
         Kit.House h = Kit.house();
         h.agent(0, "anna:secret", 2);
-        give(h, 0, Forms.wwwPass());
+        Forms.give(h, 0, Forms.wwwPass());
         h.x.present(0, 0, how);
         return h;
-    }
-
-    static int give(Kit.House h, int a, Forms.Pass pass) {
-        h.request(a, 0, 0, "http/www", 0, 4, 36000);
-        Forms.Reply reply = new Forms.Reply();
-        reply.nonce = h.node().down(4, 7).whole;
-        reply.ticket = pass.der();
-        reply.sname = Kit.WWW_NAME;
-        return h.tape(reply.der()).x.take(a);
     }
 
     private static byte[] answer(byte[] pvno, byte[] type, byte[] encrypted) {

@@ -13,6 +13,7 @@ public final class SessionTest {
         clocks();
         handWhole();
         handedInOrder();
+        handedOften();
         handedAgain();
         Kit.finish();
     }
@@ -136,11 +137,11 @@ public final class SessionTest {
             v.h.tape(text);
             Kit.due("sent", (safe ? v.h.x.assure(0, side) : v.h.x.send(0, side)) > 0, true);
             byte[] message = v.h.out();
-            v.h.tape(message);
+            v.h.carry();
             Kit.due("not for the one that sent it", safe ? v.h.x.assured(0, side) : v.h.x.receive(0, side), -38);
-            v.h.tape(message);
+            v.h.carry();
             Kit.due("not of the other kind", safe ? v.h.x.receive(0, 1 - side) : v.h.x.assured(0, 1 - side), -60);
-            v.h.tape(message);
+            v.h.carry();
             Kit.due("taken", safe ? v.h.x.assured(0, 1 - side) : v.h.x.receive(0, 1 - side), text.length);
             Kit.same("user-data", v.h.out(), text);
             v.h.tape(message);
@@ -416,11 +417,23 @@ public final class SessionTest {
         Kit.due("the TAPE is empty behind it", v.h.x.end(1), false);
         Kit.due("no SESSION", v.h.tape(good).x.handed(1, 1), -1);
         Kit.due("no SESSION", v.h.tape(good).x.handed(-1, 1), -1);
+    }
+
+    /** No seq-number: it may be taken again, until no TICKET is free. */
+    private static void handedOften() {
+        Visit v = new Visit(3);
+        v.h.agent(1, "otto:x", 1);
         v.h.x.shift(1, 100000);
+        v.h.x.hand(0, 0);
         for (int w = 0; w < 8; w++) {
-            Kit.due("it may be taken again, and the CLOCK counts", v.h.tape(good).x.handed(0, 1), w);
+            Kit.due("it may be taken again, and the CLOCK counts", v.h.carry().x.handed(0, 1), w);
         }
-        Kit.due("no TICKET is free", v.h.tape(good).x.handed(0, 1), -2);
+        Kit.due("no TICKET is free", v.h.carry().x.handed(0, 1), -2);
+        Kit.due("another AGENT has its own", v.h.carry().x.handed(0, 0), 1);
+        v.h.x.drop(1, 6);
+        v.h.x.drop(1, 4);
+        Kit.due("the lowest that is free", v.h.carry().x.handed(0, 1), 4);
+        Kit.due("the next", v.h.carry().x.handed(0, 1), 6);
     }
 
     /** What was handed over is a TICKET as told, and does what the one it came from did. */
