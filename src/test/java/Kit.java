@@ -3,6 +3,7 @@ import java.math.BigInteger;
 import java.nio.charset.StandardCharsets;
 import java.security.GeneralSecurityException;
 import java.time.Instant;
+import java.time.LocalDateTime;
 import java.time.ZoneOffset;
 import java.time.format.DateTimeFormatter;
 import java.util.ArrayList;
@@ -137,9 +138,10 @@ final class Kit {
         return tlv(3, bytes(0), word(value));
     }
 
+    private static final DateTimeFormatter TIME = DateTimeFormatter.ofPattern("yyyyMMddHHmmss'Z'");
+
     static byte[] time(long seconds) {
-        return tlv(0x18, ascii(DateTimeFormatter.ofPattern("yyyyMMddHHmmss'Z'")
-            .format(Instant.ofEpochSecond(seconds).atOffset(ZoneOffset.UTC))));
+        return tlv(0x18, ascii(TIME.format(Instant.ofEpochSecond(seconds).atOffset(ZoneOffset.UTC))));
     }
 
     static byte[] timeOrNone(long seconds) {
@@ -230,6 +232,10 @@ final class Kit {
 
         long number() {
             return new BigInteger(inner).longValue();
+        }
+
+        long seconds() {
+            return LocalDateTime.parse(new String(inner, StandardCharsets.ISO_8859_1), TIME).toEpochSecond(ZoneOffset.UTC);
         }
     }
 
