@@ -13,6 +13,7 @@ public final class EdgesOfAgentsTest {
         refusedRequest();
         etypesWritten();
         highestBits();
+        numbersOfNought();
         takenInOrder();
         takenOfTgsInOrder();
         takenOnce();
@@ -226,6 +227,36 @@ public final class EdgesOfAgentsTest {
             high[(int) (all >> 30)]++;
         }
         Kit.due("all four were among them", high[0] > 0 && high[1] > 0 && high[2] > 0 && high[3] > 0, true);
+    }
+
+    /** A SEED whose first four COINS are 80 00 00 00: a nonce of 0, and a seq-number of 0, are numbers like others. */
+    private static final byte[] NOUGHT = Kit.unhex("730102820282b8c9");
+
+    private static void numbersOfNought() {
+        Kit.due("the COINS", new Kit.Coins(NOUGHT).number(-1) & 0xFFFFFFFFL, 0x80000000L);
+        Kit.House h = withAnna();
+        h.tape(NOUGHT).x.seed();
+        h.request(0, 1, 0, "krbtgt/HOUSE", 0, 4, 36000);
+        Kit.same("nonce", h.node().down(4, 7).whole, Kit.num(0));
+        h.carry().x.kdc();
+        Kit.due("take", h.carry().x.take(0), 0);
+        h = withAnna();
+        Forms.give(h, 0, Forms.wwwPass());
+        h.tape(NOUGHT).x.seed();
+        h.x.present(0, 0, 1);
+        Kit.Node proof = new Kit.Node(Kit.opened(Kit.KEY_A, 11, h.node().down(4)));
+        Kit.same("the AGENT's number", proof.down(7).whole, Kit.num(0));
+        byte[] visit = h.out();
+        h.tape(NOUGHT).x.seed();
+        Kit.due("serve", h.tape(visit).x.serve(2), 0);
+        Kit.Node answer = new Kit.Node(Kit.opened(Kit.KEY_A, 12, h.node().down(2)));
+        Kit.same("the service's number", answer.down(3).whole, Kit.num(0));
+        Kit.due("met", h.carry().x.met(0), 0);
+        Kit.due("joins", h.x.joins(0, 0), true);
+        for (int side = 0; side < 2; side++) {
+            h.tape("hello").x.send(0, side);
+            Kit.due("from side " + side, h.carry().x.receive(0, 1 - side), 5);
+        }
     }
 
     private static Forms.Reply reply(Kit.House h) {
