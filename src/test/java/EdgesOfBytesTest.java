@@ -9,6 +9,7 @@ public final class EdgesOfBytesTest {
         tapeIsTaken();
         tapeIsNotTaken();
         outStays();
+        carryOfNothing();
         outIsWithoutSign();
         carryChanges();
         carryAtFourThousand();
@@ -146,6 +147,16 @@ public final class EdgesOfBytesTest {
         Kit.due("come to the OUT", h.x.out(-1), 0);
         Kit.due("and are carried", h.x.carry(0, 1), 0);
         Kit.due("to the TAPE", h.hasTape(0), true);
+    }
+
+    /** "0 bytes at first", and the TAPE "loses" what it had for them. */
+    private static void carryOfNothing() {
+        Kit.House h = new Kit.House();
+        Kit.due("the OUT at first", h.x.out(-1), 0);
+        Kit.due("its bytes", h.x.out(0), -1);
+        Kit.due("carry", h.tape("abc").x.carry(0, 255), 0);
+        Kit.due("the TAPE", h.hasTape(0), true);
+        Kit.due("the TAPE of a new one", new Kit.House().hasTape(0), true);
     }
 
     /** "Numbers of bytes are without sign." */
