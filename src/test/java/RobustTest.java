@@ -9,6 +9,7 @@ public final class RobustTest {
             long once = life(seed);
             Kit.due("life " + seed + " told twice", life(seed), once);
         }
+        refusedCallsLeaveAllAsItWas();
         everyByteOfEveryMessage();
         Kit.finish();
     }
@@ -131,6 +132,105 @@ public final class RobustTest {
             default:
                 h.tape("data").x.send(0, a);
                 return h.carry().x.receive(0, 1 - a);
+        }
+    }
+
+    /** A life with refused calls among the others answers to the others as the same life without them. */
+    private static void refusedCallsLeaveAllAsItWas() {
+        for (int seed = 0; seed < 200; seed++) {
+            Kit.due("life " + seed + " with refused calls in it", busyLife(seed, true), busyLife(seed, false));
+        }
+    }
+
+    private static long busyLife(int seed, boolean disturbed) {
+        Random dice = new Random(seed);
+        Random noise = new Random(seed);
+        Kit.House h = visited();
+        h.agent(1, "anna:secret", 2);
+        long all = 0;
+        for (int k = 0; k < 25; k++) {
+            for (int n = 0; disturbed && n < 2; n++) {
+                refused(h, noise);
+            }
+            all = all * 31 + busy(h, dice);
+        }
+        return all;
+    }
+
+    /** Steps that put on the TAPE themselves what they need, so that no refused call before them can take it away. */
+    private static long busy(Kit.House h, Random dice) {
+        int a = dice.nextInt(2);
+        int n = dice.nextInt(3);
+        switch (dice.nextInt(10)) {
+            case 0:
+                return h.x.hand(n, 1) * 9L + h.carry().x.handed(n, a);
+            case 1:
+                h.tape("safe").x.assure(n, a);
+                return h.carry().x.assured(n, 1 - a);
+            case 2:
+                h.x.present(a, 1, 3);
+                return h.carry().x.serve(2) * 99L + h.carry().x.met(a) * 9L + (h.x.joins(n, a) ? 1 : 0);
+            case 3:
+                return h.x.ticket(a, n, dice.nextInt(6));
+            case 4:
+                return h.tape("p" + n).x.change(2, 1) + (h.x.ends(2) ? 9 : 0);
+            case 5:
+                return (h.x.drop(a, 2 + n) ? 1 : 0) + (h.x.clock(Kit.NOW + dice.nextInt(99)) ? 2 : 0);
+            default:
+                return visit(h, dice);
+        }
+    }
+
+    private static void refused(Kit.House h, Random dice) {
+        switch (dice.nextInt(16)) {
+            case 0:
+                Kit.due("clock", h.x.clock(-1), false);
+                break;
+            case 1:
+                Kit.due("principal", h.x.principal(1), -1);
+                break;
+            case 2:
+                Kit.due("change", h.x.change(9, 1), -1);
+                break;
+            case 3:
+                Kit.due("policy", h.x.policy(1, 2, 64), false);
+                break;
+            case 4:
+                Kit.due("room", h.x.room(33), false);
+                break;
+            case 5:
+                Kit.due("agent", h.x.agent(0, 0), false);
+                break;
+            case 6:
+                Kit.due("shift", h.x.shift(0, 100001), false);
+                break;
+            case 7:
+                Kit.due("request", h.x.request(0, 1, 0, 0, 0, 0, 0), -1);
+                break;
+            case 8:
+                Kit.due("take", h.x.take(2) + h.x.met(3), -2);
+                break;
+            case 9:
+                Kit.due("drop", h.x.drop(0, 8), false);
+                break;
+            case 10:
+                Kit.due("present", h.x.present(0, 0, 4), -1);
+                break;
+            case 11:
+                Kit.due("serve", h.x.serve(7), -1);
+                break;
+            case 12:
+                Kit.due("joins", h.x.joins(0, 2) || h.x.joins(8, 0), false);
+                break;
+            case 13:
+                Kit.due("send", h.x.send(0, 2) + h.x.assure(8, 1), -2);
+                break;
+            case 14:
+                Kit.due("receive", h.x.receive(0, 1), -60);
+                break;
+            default:
+                Kit.due("hand", h.x.hand(8, 0) + h.x.handed(0, 3), -2);
+                break;
         }
     }
 
